@@ -626,6 +626,10 @@ public final class LightList {
             // Without DIRECTIONS the colour is the same from every place.
             return light.colourTo(0, 0) == sighting.colour;
         }
+        // Spares the look at every place of the SQUARE for a colour that is nowhere to be seen.
+        if (!light.hasColour(sighting.colour)) {
+            return false;
+        }
         for (int y = sighting.y - sighting.r; y <= sighting.y + sighting.r; y++) {
             for (int x = sighting.x - sighting.r; x <= sighting.x + sighting.r; x++) {
                 if (today.isSeen(number, x, y)
@@ -971,6 +975,15 @@ public final class LightList {
                 }
             }
             return false;
+        }
+
+        boolean hasColour(int wanted) {
+            for (int i = 0; i < directions.length; i++) {
+                if (directions[i].colour == wanted) {
+                    return true;
+                }
+            }
+            return colour == wanted;
         }
 
         int colourOfSister() {
