@@ -297,7 +297,7 @@ abstract class Bounds {
             s.append(" | ").append(light).append(x.lit(light) == 1 ? " lit" : " out");
             for (int what = 0; what <= 7; what++) s.append(' ').append(x.of(light, what));
             s.append(" spans");
-            for (int i = 0; x.spanOf(light, i) != NONE; i++) s.append(' ').append(x.spanOf(light, i));
+            for (int i = 0; i < 25; i++) s.append(' ').append(x.spanOf(light, i));
             s.append(" round");
             int[][] ways = {{0, 0}, {3, 0}, {3, 1}, {2, 3}, {0, 3}, {-1, 3}, {-3, 0}, {-3, -1}, {0, -3}, {3, -1}};
             for (int[] way : ways) s.append(' ').append(x.at(light, 0, x.of(light, 2) + way[0], x.of(light, 3) + way[1]));

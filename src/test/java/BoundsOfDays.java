@@ -311,6 +311,18 @@ final class BoundsOfDays extends Bounds {
             counts(what, new int[][] {{4, NONE, 2}, {4, NONE, 1}}, new int[][] {{4, 0, -1}, {4, 1, 1}, {4, 2, 1}});
             counts(what, new int[][] {{0, NONE, 0}, {0, 1, 0}, {10000, NONE, 10000}}, new int[][] {{0, 0, 1}, {1, 0, 0}, {10000, 9999, 0}, {10000, 10000, 2}, {9999, 10000, 0}});
         }
+        // One office through the days, forth and back: what counted on another day is forgotten.
+        LightList through = after(y -> flash(y, 0, 1, 1));
+        for (int from = 1; from <= 5; from++) {
+            through.notice(0, MOVED, from, 0, from, NONE, 0);
+            row(through, 10 + from, 1);
+            through.notice(0, CHANGED, 0, 0, from, NONE, 0);
+        }
+        for (int day : new int[] {0, 5, 4, 3, 1, 0, 2, 5, 1, 10000, 0}) {
+            through.days(day, 0);
+            due("MOVED on day " + day, through.of(0, 2), Math.min(day, 5));
+            due("CHANGED on day " + day, through.spanOf(0, 0), day == 0 ? 1 : 10 + Math.min(day, 5));
+        }
         says("the last CHANGED and MOVED ones count.");
         LightList x = new LightList();
         flash(x, 0, 1, 1);

@@ -117,6 +117,8 @@ final class BoundsOfGiving extends Bounds {
         apartIs("twice in the other", 0, 0, new int[] {1, 1}, new int[] {1, 1, 1, 1, 1, 9});
         apartIs("once and a half in the other", 1, 0, new int[] {1, 1}, new int[] {1, 1, 1, 9});
         apartIs("once in the other, over its end", 1, 0, new int[] {1, 1}, new int[] {1, 9, 1, 8});
+        apartIs("twice but for the last SPAN", 1, 0, new int[] {1, 1, 1, 2}, new int[] {1, 1, 1, 2, 1, 1, 1, 9});
+        apartIs("twice to the last SPAN", 0, 0, new int[] {1, 1, 1, 2}, new int[] {1, 1, 1, 2, 1, 1, 1, 2, 1, 9});
         apartIs("twice, from the dark on", 1, 0, new int[] {1, 1}, new int[] {2, 1, 1, 1, 1, 3});
         apartIs("twice, from a later light one on", 0, 0, new int[] {1, 1}, new int[] {7, 9, 1, 1, 1, 1});
         apartIs("twice, going round", 0, 0, new int[] {1, 1}, new int[] {1, 1, 7, 9, 1, 1});
@@ -193,6 +195,11 @@ final class BoundsOfGiving extends Bounds {
         LightList y = new LightList();
         for (int i = 0; i < 60; i++) flash(y, i, 10, i < 59 ? 20 + i : 20);
         due("0 and 59", y.check(0), 59);
+        LightList z = new LightList();
+        for (int i = 0; i < 60; i++) flash(z, i, 10, 20 + i);
+        due("none of 60", z.check(0), -2);
+        LightList undone = after(w -> flash(w, 0, 10, 20), w -> flash(w, 1, 10, 20), w -> w.undo(1));
+        due("one that was undone", undone.check(0), -2);
     }
 
     private static void checkAtTheWater() {
@@ -309,6 +316,14 @@ final class BoundsOfGiving extends Bounds {
         x.days(2, 0);
         due("when it is CHANGED", x.give(2, 0), -2);
         due("one when it is CHANGED", x.give(1, 0), 30);
+        LightList undone = after(y -> offered(y, 10, 20), y -> flash(y, 0, 10, 20));
+        due("before it is undone", undone.give(1, 0), -2);
+        undone.undo(1);
+        due("when it is undone", undone.give(1, 0), 30);
+        LightList full = after(y -> offered(y, 10, 20), y -> offered(y, 10, 21));
+        for (int i = 0; i < 60; i++) flash(full, i, 10, i < 59 ? 30 : 20);
+        due("beside 60", full.give(1, 0), 31);
+        due("two beside 60", full.give(2, 0), -2);
         LightList fixed = after(y -> offered(y, 1, 1), y -> lamp(y, 0, FIXED, 0));
         due("beside a FIXED one", fixed.give(1, 50), 2);
     }

@@ -12,6 +12,7 @@ final class BoundsOfPast extends Bounds {
         undoArguments();
         undoOfFifty();
         actsAreUndone();
+        actsDoNothingElse();
         whatIsNoAct();
         undoBeyondFifty();
         keepAndBackArguments();
@@ -139,6 +140,23 @@ final class BoundsOfPast extends Bounds {
     private static List<Integer> told(LightList x) {
         return List.of(x.about(0), x.about(1), x.about(2), x.about(3), x.about(5), x.about(6), x.about(7), x.about(8),
             x.about(9), x.about(10));
+    }
+
+    /** Each act changes what it says, and leaves the rest. */
+    private static void actsDoNothingElse() {
+        Map<String, List<Integer>> changes = Map.of("light", List.of(0, 4), "notice OUT", List.of(1), "notice MOVED", List.of(1),
+            "notice CHANGED", List.of(1, 4), "sight", List.of(2, 4), "offer", List.of(3, 4), "days", List.of(5, 6),
+            "haze", List.of(7), "haze of a NaN", List.of(7), "water", List.of(9, 10));
+        for (Map.Entry<String, Call> act : acts().entrySet()) {
+            LightList x = after(Bounds::busyCoast);
+            int[] before = new int[11];
+            for (int what = 0; what <= 10; what++) before[what] = x.about(what);
+            act.getValue().on(x);
+            for (int what = 0; what <= 10; what++) {
+                boolean isChanged = what == 8 || changes.getOrDefault(act.getKey(), List.of()).contains(what);
+                due(act.getKey() + (isChanged ? " changes " : " leaves ") + what, x.about(what) != before[what], isChanged);
+            }
+        }
     }
 
     private static void whatIsNoAct() {

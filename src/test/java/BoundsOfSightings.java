@@ -331,6 +331,21 @@ final class BoundsOfSightings extends Bounds {
         due("a ray that meets no whole numbers", x.which(x.sight(20, 10, 20, 2, 0, 0)), 0);
         due("beside it", x.which(x.sight(20, 10, 20, 3, 0, 0)), 1);
         due("its own colour at the light alone", x.which(x.sight(20, 10, 20, 1, 0, 0)), 1);
+        for (int colour = 4; colour <= 15; colour++) {
+            due("a colour that no SECTOR has: " + colour, x.which(x.sight(20, 10, 20, colour, 0, 0)), 0);
+        }
+        for (int own = 1; own <= 3; own++) {
+            for (int shown = 1; shown <= 3; shown++) {
+                LightList y = new LightList();
+                row(y, 10, 20);
+                y.light(0, SECTOR, 0, 0, 0, 500, own);
+                y.direct(0, 1, 1, shown);
+                for (int colour = 1; colour <= 3; colour++) {
+                    due(colour + " of a SECTOR that shows " + shown, y.which(y.sight(30, 30, 5, colour, 0, 0)), colour == shown ? 1 : 0);
+                    due(colour + " with the light itself", y.which(y.sight(3, 3, 5, colour, 0, 0)), colour == shown || colour == own ? 1 : 0);
+                }
+            }
+        }
         due("its own colour not beside the light", x.which(x.sight(21, 10, 20, 1, 0, 0)), 0);
     }
 
@@ -429,6 +444,13 @@ final class BoundsOfSightings extends Bounds {
         x.notice(1, OUT, 0, 0, 0, NONE, 0);
         due("none of the two", x.sure(0), NONE);
         says("The LIGHT that a SIGHTING is, if it is SURE; NONE else.");
+        for (int light = 0; light < 60; light++) {
+            LightList y = new LightList();
+            for (int i = 0; i < 60; i++) y.light(i, FIXED, 0, i * 10, 0, 5, 1);
+            y.sight(10 * light, 0, 4, 1, 0, 0);
+            due("LIGHT " + light + " of 60", y.sure(0), light);
+            due("the one it can be", y.one(0, 0), light);
+        }
         for (int s : new int[] {-1, 3, LEAST, MOST}) refused("sure " + s, NONE, Bounds::busyCoast, y -> y.sure(s));
     }
 
@@ -524,6 +546,13 @@ final class BoundsOfSightings extends Bounds {
         askIs("two FIXED ones", -3, new int[][] {{}, {}}, 0, 0);
         askIs("a FIXED one among the same ones", -3, new int[][] {{3, 4}, {3, 4}, {}}, 0, 0);
         askIs("a FIXED one that it can't be", 5, new int[][] {{3, 4}, {3, 5}, {}}, 0, LIGHT_FIRST, 3);
+        askIs("a FIXED first one that it can't be", 5, new int[][] {{}, {3, 4}, {3, 5}}, 0, LIGHT_FIRST, 3);
+        LightList x = after(y -> flash(y, 0, 3, 4), y -> flash(y, 1, 3, 5), y -> lamp(y, 2, FIXED, 0));
+        int alone = seen(x, 0, 0);
+        int counted = seen(x, 0, LIGHT_FIRST, 3);
+        due("one that can be a FIXED one too", x.ask(alone), -3);
+        due("behind it one that can't", x.ask(counted), 5);
+        due("and again one that can", x.ask(alone), -3);
         int[][] many = new int[9][];
         java.util.Arrays.fill(many, new int[] {3, 4});
         askIs("nine the same", -3, many, 0, LIGHT_FIRST, 3);
@@ -629,14 +658,19 @@ final class BoundsOfSightings extends Bounds {
         bearingCounts(new int[] {1000, 1}, 990, 1, true);
     }
 
+    /** Whether it is among the few squares that are left. */
+    private static boolean hasSquare(LightList x, int g, int square) {
+        for (int k = 0; k < 20; k++) if (x.square(g, k) == square) return true;
+        return false;
+    }
+
     /** Whether the middle 10, 10 is one of the squares when the light is by v from it. */
     private static void bearingCounts(int[] b, int vx, int vy, boolean want) {
         LightList x = new LightList();
         x.light(0, FIXED, 0, 10 + vx, 10 + vy, 2000, 1);
         x.sight(10, 10, 0, 1, 0, 0);
         x.bear(0, b[0], b[1]);
-        boolean isThere = false;
-        for (int k = 0; x.square(20, k) != NONE; k++) isThere |= x.square(20, k) == 50 + 1000 * 50;
+        boolean isThere = hasSquare(x, 20, 50 + 1000 * 50);
         due("bearing " + b[0] + ", " + b[1] + " and v " + vx + ", " + vy, isThere, want);
     }
 
@@ -660,9 +694,7 @@ final class BoundsOfSightings extends Bounds {
             x.sight(1000, 1000, 0, 1, 0, 0);
             x.bear(0, -1, 0);
             int across = g == 20 ? 100 : 91;
-            boolean isThere = false;
-            for (int k = 0; x.square(g, k) != NONE; k++) isThere |= x.square(g, k) == 1001 * (across - 1);
-            due("the last square by " + g, isThere, true);
+            due("the last square by " + g, hasSquare(x, g, 1001 * (across - 1)), true);
         }
         LightList first = new LightList();
         first.light(0, FIXED, 0, 0, -990, 2000, 1);
@@ -673,6 +705,22 @@ final class BoundsOfSightings extends Bounds {
 
     private static void crossOfSure() {
         says("for all SIGHTINGS that are SURE and have a BEARING:");
+        // Red in the east, green in the north, white to no one: in 9 squares by each, and in the same ones by both.
+        LightList both = new LightList();
+        both.light(0, FIXED, 0, -990, -990, 2000, 1);
+        both.light(1, FIXED, 0, 990, 10, 2000, 2);
+        both.light(2, FIXED, 0, -510, 990, 2000, 3);
+        both.sight(-510, 10, 0, 2, 0, 0);
+        both.sight(-510, 10, 0, 3, 0, 0);
+        both.bear(1, 0, 1);
+        due("by the third LIGHT", both.cross(20), 9);
+        both.bear(0, 1, 0);
+        due("by the second and the third", both.cross(20), 9);
+        both.bear(0, 0, 1);
+        due("the second is not there", both.cross(20), -2);
+        both.bear(0, 1, 0);
+        both.bear(1, 1, 0);
+        due("nor is the third", both.cross(20), -3);
         LightList x = new LightList();
         x.light(0, FIXED, 0, 990, 10, 2000, 1);
         x.light(1, FIXED, 0, 10, 990, 2000, 2);
@@ -712,6 +760,16 @@ final class BoundsOfSightings extends Bounds {
                 x.bear(98, 0, 1);
                 due("a later one that leaves none either", x.cross(20), -2 - culprit);
             }
+        }
+        // By 40 the middles are -980 + 40 i; of those that are near enough -140, 20 alone has the light so.
+        for (int off : new int[] {0, 1}) {
+            LightList one = new LightList();
+            one.light(0, FIXED, 0, 0, 0, 500, 1);
+            one.sight(-80 + off, 0, 20, 1, 0, 0);
+            one.bear(0, 8, -1);
+            due("one is left, or none", one.cross(40), off == 0 ? 1 : -2);
+            due("the one", one.square(40, 0), off == 0 ? 21 + 25000 : NONE);
+            due("no other", one.square(40, 1), NONE);
         }
         // Each leaves some, both together none.
         LightList x = new LightList();
